@@ -904,8 +904,10 @@ public final class OddShoes {
 
         int worthOfAll(int set) {
             int sum = 0;
-            for (int rest = set; rest != 0; rest &= rest - 1) {
+            int rest = set;
+            for (int left = Integer.bitCount(set); left > 0; left--) {
                 sum += worths[lowestOf(rest)];
+                rest &= rest - 1;
             }
             return sum;
         }
@@ -913,8 +915,10 @@ public final class OddShoes {
         /** The ranks, as bits, of the offers that suit all of a set; 0 if two of them have a BAR. */
         int sharedBy(int set) {
             int shared = -1;
-            for (int rest = set; rest != 0; rest &= rest - 1) {
+            int rest = set;
+            for (int left = Integer.bitCount(set); left > 0; left--) {
                 int person = lowestOf(rest);
+                rest &= rest - 1;
                 if ((bars[person] & set) != 0) {
                     return 0;
                 }
@@ -940,8 +944,10 @@ public final class OddShoes {
             if (rest == 0) {
                 return (before[first] >> last & 1) != 0;
             }
-            for (int left = rest; left != 0; left &= left - 1) {
-                int person = lowestOf(left);
+            int untried = rest;
+            for (int left = Integer.bitCount(rest); left > 0; left--) {
+                int person = lowestOf(untried);
+                untried &= untried - 1;
                 if ((before[person] >> last & 1) != 0) {
                     row[at] = person;
                     if (putsRest(first, rest & ~(1 << person), row, at + 1)) {
@@ -1023,8 +1029,10 @@ public final class OddShoes {
                 return set;
             }
             int found = 0;
-            for (int rest = others; rest != 0; rest &= rest - 1) {
+            int rest = others;
+            for (int left = Integer.bitCount(others); left > 0; left--) {
                 int last = rest & -rest;
+                rest ^= last;
                 if ((ends[set ^ last] & rings.before[lowestOf(last)]) != 0) {
                     found |= last;
                 }
