@@ -425,9 +425,8 @@ public final class OddShoes {
     private boolean suits(int person, int maker) {
         Person one = people[person];
         for (int side = LEFT; side <= RIGHT; side++) {
-            int foot = footOf(person, side);
-            if (one.hasFoot(side) && !(measures.isSure(foot, maker)
-                    && isWithin(measures.leastNeed(foot, maker) + one.grownBy(now), 1, SIZES))) {
+            if (one.hasFoot(side) && !(measures.isSure(footOf(person, side), maker)
+                    && isWithin(sureNeed(person, side, maker), 1, SIZES))) {
                 return false;
             }
         }
@@ -454,8 +453,11 @@ public final class OddShoes {
     }
 
     private int kindFor(int person, int side, int maker, int style) {
-        int size = measures.leastNeed(footOf(person, side), maker) + people[person].grownBy(now);
-        return Maker.kindOf(style, side, size);
+        return Maker.kindOf(style, side, sureNeed(person, side, maker));
+    }
+
+    private int sureNeed(int person, int side, int maker) {
+        return measures.leastNeed(footOf(person, side), maker) + people[person].grownBy(now);
     }
 
     /** Tells the rings who may be in one as all is now, and who may stand ahead of whom. */
@@ -463,18 +465,13 @@ public final class OddShoes {
         rings.clear();
         for (int i = 0; i < peopleCount; i++) {
             Person one = people[i];
-            rings.enter(i, one.waits() ? offersFor(i) : 0, one.bars, worthOf(one));
-            if (one.hasFoot(LEFT)) {
-                rings.leftFooted |= 1 << i;
+            int ranks = one.waits() ? offersFor(i) : 0;
+            if (ranks != 0) {
+                rings.enter(i, ranks, one.bars, worthOf(one));
+                rings.tellFeet(i, markOf(i, LEFT), markOf(i, RIGHT));
             }
         }
-        for (int i = 0; i < peopleCount; i++) {
-            for (int next = 0; next < peopleCount; next++) {
-                if (rings.areAble(1 << i | 1 << next) && goesAhead(i, next)) {
-                    rings.before[next] |= 1 << i;
-                }
-            }
-        }
+        rings.link();
     }
 
     private int offersFor(int person) {
@@ -488,20 +485,21 @@ public final class OddShoes {
     }
 
     /**
-     * Whether the right foot of one is as the left one of the next. Feet that are SURE by one MAKER have
-     * the same NEED just if their LENGTHS cannot differ, so this need not be asked of each MAKER apart.
+     * A number for a foot, 0 for none: feet that are SURE by one MAKER have the same number just if they have the
+     * same NEED. The first MAKER by whom one of them is SURE is that of the other one too, for what tells one
+     * SHIFT from another does so for both.
      */
-    private boolean goesAhead(int person, int next) {
-        Person one = people[person];
-        Person other = people[next];
-        if (!one.hasFoot(RIGHT) || !other.hasFoot(LEFT)) {
-            return !one.hasFoot(RIGHT) && !other.hasFoot(LEFT);
+    private int markOf(int person, int side) {
+        int foot = footOf(person, side);
+        if (!people[person].hasFoot(side)) {
+            return 0;
         }
-        int right = footOf(person, RIGHT);
-        int left = footOf(next, LEFT);
-        int grownMore = one.grownBy(now) - other.grownBy(now);
-        return measures.mostLonger(right, left) + grownMore == 0
-                && measures.mostLonger(left, right) - grownMore == 0;
+        for (int maker = 0; maker < makerCount; maker++) {
+            if (measures.isSure(foot, maker)) {
+                return (sureNeed(person, side, maker) + 10) * MOST_MAKERS + maker;
+            }
+        }
+        return 0;
     }
 
     /** A planner that has chosen the RINGS of a PLAN, as all is now. Its rows are long: it is made when first used. */
@@ -521,9 +519,7 @@ public final class OddShoes {
         }
         for (int k = at; k < at + Integer.bitCount(set); k++) {
             int person = latest.rows[k];
-            Person one = people[person];
-            latest.leftSizes[k] = one.hasFoot(LEFT)
-                    ? measures.leastNeed(footOf(person, LEFT), offer / STYLES) + one.grownBy(now) : 0;
+            latest.leftSizes[k] = people[person].hasFoot(LEFT) ? sureNeed(person, LEFT, offer / STYLES) : 0;
         }
         int pairs = rings.pairsOf(set);
         latest.add(set, offer, pairs, pairs * offers.priceOf(offer));
@@ -868,17 +864,19 @@ public final class OddShoes {
 
     /** Who may be in RINGS, as all is at some time. */
     private static final class Rings {
-        /** Of a PERSON: the others, as bits, who may stand ahead of that one. */
+        /** Of a PERSON: all, as bits, who may stand ahead of that one. */
         final int[] before = new int[MOST_PEOPLE];
-        int leftFooted = 0;
-        int able = 0;
         private final int[] ranks = new int[MOST_PEOPLE];
         private final int[] bars = new int[MOST_PEOPLE];
         private final int[] worths = new int[MOST_PEOPLE];
+        private final int[] leftMarks = new int[MOST_PEOPLE];
+        private final int[] rightMarks = new int[MOST_PEOPLE];
+        private int able = 0;
+        private int leftFooted = 0;
 
         void clear() {
-            leftFooted = 0;
             able = 0;
+            leftFooted = 0;
             for (int i = 0; i < MOST_PEOPLE; i++) {
                 before[i] = 0;
                 ranks[i] = 0;
@@ -889,9 +887,29 @@ public final class OddShoes {
             ranks[person] = ofRanks;
             bars[person] = withBars;
             worths[person] = worth;
-            if (ofRanks != 0) {
-                able |= 1 << person;
+            able |= 1 << person;
+        }
+
+        void tellFeet(int person, int left, int right) {
+            leftMarks[person] = left;
+            rightMarks[person] = right;
+            if (left != 0) {
+                leftFooted |= 1 << person;
             }
+        }
+
+        void link() {
+            for (int next = 0; next < MOST_PEOPLE; next++) {
+                for (int person = 0; person < MOST_PEOPLE; person++) {
+                    if (areAble(1 << next | 1 << person) && rightMarks[person] == leftMarks[next]) {
+                        before[next] |= 1 << person;
+                    }
+                }
+            }
+        }
+
+        boolean goesAhead(int person, int next) {
+            return (before[next] >> person & 1) != 0;
         }
 
         boolean areAble(int set) {
@@ -912,7 +930,7 @@ public final class OddShoes {
             return sum;
         }
 
-        /** The ranks, as bits, of the offers that suit all of a set; 0 if two of them have a BAR. */
+        /** The ranks, as bits, of the offers that suit all of a set; 0 if two of them have a BAR, or one is not able. */
         int sharedBy(int set) {
             int shared = -1;
             int rest = set;
@@ -942,13 +960,13 @@ public final class OddShoes {
         private boolean putsRest(int first, int rest, int[] row, int at) {
             int last = row[at - 1];
             if (rest == 0) {
-                return (before[first] >> last & 1) != 0;
+                return goesAhead(last, first);
             }
             int untried = rest;
             for (int left = Integer.bitCount(rest); left > 0; left--) {
                 int person = lowestOf(untried);
                 untried &= untried - 1;
-                if ((before[person] >> last & 1) != 0) {
+                if (goesAhead(last, person)) {
                     row[at] = person;
                     if (putsRest(first, rest & ~(1 << person), row, at + 1)) {
                         return true;
@@ -959,9 +977,15 @@ public final class OddShoes {
         }
     }
 
-    /** Chooses the RINGS of a PLAN. Its rows have an element for each set of people, by its bits. */
+    /**
+     * Chooses the RINGS of a PLAN. A set whose RING could be two RINGS is never in one: they bring the same WORTH,
+     * do not COST more, and the one with the least PERSON is the lesser set. So only loops are looked at: RINGS
+     * that come back to a NEED that they had at no place but their end.
+     */
     private static final class Planner {
         private static final int SETS = 1 << MOST_PEOPLE;
+        /** All sets of 1 .. 5 of twelve people. */
+        private static final int MOST_LOOPS = 1585;
         /** More than all RINGS of a PLAN can COST, so that WORTH comes first and COST behind it in one number. */
         private static final long COST_ROOM = 16384L;
 
@@ -970,12 +994,16 @@ public final class OddShoes {
         int all = 0;
         private final Rings rings;
         private final Offers offers;
-        /** Who can be the last of a row that begins with the least of the set and has all of it. */
-        private final int[] ends = new int[SETS];
-        /** WORTH and COST of the set's RING; 0: it has none. */
-        private final long[] gain = new long[SETS];
-        /** WORTH and COST of a PLAN for the people of the set alone. */
+        /** The loops' sets by their least people; those of a PERSON begin at firstLoop of it. */
+        private final int[] loops = new int[MOST_LOOPS];
+        private final int[] firstLoop = new int[MOST_PEOPLE + 1];
+        private int loopCount = 0;
+        /** WORTH and COST of each loop. */
+        private final long[] gains = new long[MOST_LOOPS];
+        /** By sets of people: WORTH and COST of a PLAN for them alone, and in which round that was worked out. */
         private final long[] best = new long[SETS];
+        private final int[] roundOf = new int[SETS];
+        private int round = 0;
 
         Planner(Rings rings, Offers offers) {
             this.rings = rings;
@@ -984,111 +1012,103 @@ public final class OddShoes {
 
         /** Chooses the sets of a PLAN, by their least people. */
         void choose() {
-            int ringed = findRings(rings.able);
-            int behind = ringed & (ringed - 1);
-            int set = 0;
-            int parts = 1 << Integer.bitCount(behind);
-            best[0] = 0;
-            for (int i = 1; i < parts; i++) {
-                set = nextPart(set, behind);
-                best[set] = bestOf(set);
-            }
-            if (ringed != 0) {
-                best[ringed] = bestOf(ringed);
-            }
-            pick(ringed);
-        }
-
-        /** The next greater number whose bits are all in whole. */
-        private static int nextPart(int part, int whole) {
-            return (part - whole) & whole;
-        }
-
-        /** Works out the RINGS of all sets of the able; answers all who are in one. */
-        private int findRings(int able) {
-            int ringed = 0;
-            int set = 0;
-            int parts = 1 << Integer.bitCount(able);
-            for (int i = 1; i < parts; i++) {
-                set = nextPart(set, able);
-                int shared = Integer.bitCount(set) <= MOST_IN_RING ? rings.sharedBy(set) : 0;
-                ends[set] = shared == 0 ? 0 : endsOf(set);
-                gain[set] = 0;
-                if ((ends[set] & rings.before[lowestOf(set)]) != 0) {
-                    long cost = offers.priceOf(offers.bestOf(shared)) * rings.pairsOf(set);
-                    gain[set] = rings.worthOfAll(set) * COST_ROOM - cost;
-                    ringed |= set;
+            round++;
+            loopCount = 0;
+            for (int person = 0; person < MOST_PEOPLE; person++) {
+                firstLoop[person] = loopCount;
+                if (rings.areAble(1 << person)) {
+                    follow(person, person, 1 << person, 0);
                 }
             }
-            return ringed;
+            firstLoop[MOST_PEOPLE] = loopCount;
+            pick();
         }
 
-        private int endsOf(int set) {
-            int others = set & (set - 1);
-            if (others == 0) {
-                return set;
+        /**
+         * Finds the loops that begin with the row of a set, from its first to its last one. Closing: who would go
+         * ahead of one of the row but its first, which would be a loop within. A row has five at most.
+         */
+        private void follow(int first, int last, int set, int closing) {
+            int shared = rings.sharedBy(set);
+            if (shared == 0) {
+                return;
             }
-            int found = 0;
-            int rest = others;
-            for (int left = Integer.bitCount(others); left > 0; left--) {
-                int last = rest & -rest;
-                rest ^= last;
-                if ((ends[set ^ last] & rings.before[lowestOf(last)]) != 0) {
-                    found |= last;
+            if (rings.goesAhead(last, first)) {
+                add(set, shared);
+                return;
+            }
+            for (int next = first + 1; next < MOST_PEOPLE && Integer.bitCount(set) < MOST_IN_RING; next++) {
+                int more = closing | rings.before[next];
+                if (rings.goesAhead(last, next) && ((set | more) >> next & 1) == 0) {
+                    follow(first, next, set | 1 << next, more);
                 }
             }
-            return found;
         }
 
-        /** The least of the set is in no RING, or in one with some of the others. */
-        private long bestOf(int set) {
-            int others = set & (set - 1);
-            int least = set ^ others;
-            long most = best[others];
-            int part = others;
-            for (int left = 1 << Integer.bitCount(others); left > 0; left--) {
-                long mine = gain[part | least];
-                if (mine > 0) {
-                    most = Math.max(most, mine + best[others ^ part]);
-                }
-                part = (part - 1) & others;
+        private void add(int set, int shared) {
+            if (loopCount >= MOST_LOOPS) {
+                return;
             }
+            int cost = offers.priceOf(offers.bestOf(shared)) * rings.pairsOf(set);
+            loops[loopCount] = set;
+            gains[loopCount] = rings.worthOfAll(set) * COST_ROOM - cost;
+            loopCount++;
+        }
+
+        /** The least of the open ones is in no RING, or in one with others of them; each level has less of them. */
+        private long bestFor(int open) {
+            if (open == 0) {
+                return 0;
+            }
+            if (roundOf[open] == round) {
+                return best[open];
+            }
+            int least = lowestOf(open);
+            long most = bestFor(open & (open - 1));
+            for (int i = firstLoop[least]; i < firstLoop[least + 1]; i++) {
+                if ((loops[i] & ~open) == 0) {
+                    most = Math.max(most, gains[i] + bestFor(open & ~loops[i]));
+                }
+            }
+            roundOf[open] = round;
+            best[open] = most;
             return most;
         }
 
-        private void pick(int ringed) {
-            int open = ringed;
+        private void pick() {
+            int open = 0;
+            for (int i = 0; i < loopCount; i++) {
+                open |= loops[i];
+            }
             all = 0;
             chosenCount = 0;
-            for (int i = 0; i < MOST_PEOPLE && open != 0; i++) {
-                int set = pickFor(open);
-                if (set == 0) {
-                    open &= open - 1;
-                } else {
-                    chosen[chosenCount] = set;
-                    chosenCount++;
-                    all |= set;
-                    open &= ~set;
+            for (int person = 0; person < MOST_PEOPLE; person++) {
+                if ((open >> person & 1) != 0) {
+                    int set = pickFor(person, open);
+                    if (set != 0) {
+                        chosen[chosenCount] = set;
+                        chosenCount++;
+                        all |= set;
+                    }
+                    open &= ~(set | 1 << person);
                 }
             }
         }
 
         /** The set that the least of the open ones is in, the least of several; 0: none, which is ahead of all. */
-        private int pickFor(int open) {
-            int others = open & (open - 1);
-            int least = open ^ others;
-            if (best[others] == best[open]) {
+        private int pickFor(int least, int open) {
+            long most = bestFor(open);
+            if (bestFor(open & ~(1 << least)) == most) {
                 return 0;
             }
-            int part = 0;
-            for (int left = 1 << Integer.bitCount(others); left > 0; left--) {
-                long mine = gain[part | least];
-                if (mine > 0 && mine + best[others ^ part] == best[open]) {
-                    return part | least;
+            int found = 0;
+            for (int i = firstLoop[least]; i < firstLoop[least + 1]; i++) {
+                int set = loops[i];
+                if ((set & ~open) == 0 && gains[i] + bestFor(open & ~set) == most && (found == 0 || set < found)) {
+                    found = set;
                 }
-                part = nextPart(part, others);
             }
-            return 0;
+            return found;
         }
     }
 

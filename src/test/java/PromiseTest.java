@@ -148,6 +148,13 @@ public final class PromiseTest {
         }
         due("a fifth", club.maker(), -1);
         due("makers", club.count(1), 4);
+        club.person(true, true, 1, 0, 1);
+        due("maker 4 has no price", club.price(4, 0, 1), false);
+        due("no trials", club.trial(4, 9, 0, 0, 0), -1);
+        due("no needs", need(club, 0, 0, 4, 0), THROWS);
+        due("no shift", shift(club, 4, 0), THROWS);
+        due("no shoes", club.single(4, 0, 0, 1), -1);
+        due("no stock", club.stock(4, 0, 0, 1), -1);
     }
 
     private static void price() {
@@ -201,6 +208,15 @@ public final class PromiseTest {
         club.gone(3);
         due("a 13th, after one went", club.person(true, true, 1, 0, 1), -1);
         due("people", club.count(2), 12);
+        due("person 12 has no bars", club.bar(12, 0, true) || club.bar(0, 12, true), false);
+        due("no likes", club.likes(12, 1), false);
+        due("does not go", club.gone(12), false);
+        due("no trials", club.trial(0, 9, 12, 0, 0), -1);
+        due("no needs", need(club, 12, 0, 0, 0), THROWS);
+        due("no lengths", differ(club, 0, 0, 12, 0, 0), THROWS);
+        due("no ring", club.ring(1 << 12), -1);
+        due("no shoes", club.hand(12), -1);
+        due("nothing", club.personOf(12, 0), -1);
         due("wait of one who came later", club.personOf(5, 6), 0);
         due("wait of one who came first", club.personOf(0, 6), 2);
         due("growth begins with the coming", club.personOf(5, 4), 0);
@@ -322,6 +338,7 @@ public final class PromiseTest {
         due("29 is tight", club.trial(0, 29, 0, 0, -1), 2);
         due("trials", club.count(3), 3);
         due("tight and loose leave none", tightAndLoose(), -2);
+        refusedTrial();
         fillTrials();
     }
 
@@ -330,6 +347,18 @@ public final class PromiseTest {
         club.person(true, true, 1, 0, 1);
         club.trial(0, 9, 0, 1, -1);
         return club.trial(0, 10, 0, 1, 1);
+    }
+
+    private static void refusedTrial() {
+        OddShoes club = club(3);
+        club.person(true, true, 1, 0, 1);
+        club.trial(0, 9, 0, 0, 0);
+        due("not possible", club.trial(1, 20, 0, 0, 0), -2);
+        due("shift is not told by it", shift(club, 1, 0) * 10 + shift(club, 1, 1), -27);
+        due("nor another one", shift(club, 2, 0) * 10 + shift(club, 2, 1), -27);
+        due("nor a need", need(club, 0, 0, 1, 1) * 100 + need(club, 0, 1, 0, 1), 1230);
+        due("nor a difference", differ(club, 0, 0, 0, 1, 1), 8);
+        due("numbers go on", club.trial(1, 9, 0, 0, 0), 1);
     }
 
     private static void fillTrials() {
@@ -344,6 +373,9 @@ public final class PromiseTest {
         due("what is taken back stays as a number", club.trial(0, 9, 0, 0, 0), -1);
         due("trials", club.count(3), 100);
         due("that stand", club.count(4), 99);
+        due("trial 99", club.trialOf(99, 1), 9);
+        due("trial 100", club.trialOf(100, 1), -9);
+        due("trial 100", club.unsay(100), false);
     }
 
     private static void trialsOfThoseWhoGrow() {
@@ -488,6 +520,12 @@ public final class PromiseTest {
         two.trial(2, 4, 0, 0, 0);
         due("two shifts that tell of each other", shift(two, 1, 1), -3);
         due("two shifts that tell of each other", shift(two, 2, 0), 3);
+        OddShoes way = club(3);
+        way.person(true, true, 1, 0, 1);
+        way.trial(0, 10, 0, 0, 0);
+        way.trial(1, 10, 0, 0, 0);
+        way.trial(2, 10, 0, 1, 0);
+        due("a shift that is sure tells of needs", need(way, 0, 1, 1, 0) * 100 + need(way, 0, 1, 1, 1), 713);
     }
 
     private static void differ() {
@@ -539,6 +577,17 @@ public final class PromiseTest {
         due("greatest", club.terms(1000, 100), true);
         due("worth", club.personOf(0, 10), 1200);
         due("plan", club.plan(), 3600);
+        club.person(true, true, 1, 0, 3);
+        fit(club, 3, 8, 8);
+        due("those who came later wait less", club.plan(), 4600);
+        OddShoes later = club(1);
+        later.price(0, 0, 1);
+        both(later, 1, 2);
+        later.month(3);
+        both(later, 2, 3);
+        later.month(1);
+        both(later, 3, 1);
+        due("three who wait for 4, 1 and 0 months", later.plan(), 350);
     }
 
     private static void ring() {
@@ -603,6 +652,7 @@ public final class PromiseTest {
         due("its maker", club.planOf(0, 1), 2);
         club.likes(0, 8);
         due("none that both like", club.ring(3), -1);
+        ringRanks();
         for (int m = 0; m < 3; m++) {
             club.price(m, 3, 20 - m);
         }
@@ -619,6 +669,30 @@ public final class PromiseTest {
         club.price(0, 0, 969);
         club.plan();
         due("as cheap, and the first", club.planOf(0, 1) * 10 + club.planOf(0, 2), 0);
+    }
+
+    /** Each offer must be found, however they came and changed. */
+    private static void ringRanks() {
+        OddShoes club = club(1);
+        club.person(true, true, 1, 0, 1);
+        fit(club, 0, 9, 9);
+        for (int style = 0; style < 8; style++) {
+            club.price(0, style, 80 - 10 * style);
+        }
+        for (int style = 0; style < 8; style++) {
+            club.likes(0, 1 << style);
+            due("style " + style, club.ring(1), 80 - 10 * style);
+        }
+        for (int style = 0; style < 8; style += 2) {
+            club.price(0, style, 5 + style);
+        }
+        for (int style = 0; style < 8; style++) {
+            club.likes(0, 1 << style);
+            due("style " + style, club.ring(1), style % 2 == 0 ? 5 + style : 80 - 10 * style);
+        }
+        club.price(0, 0, 0);
+        club.likes(0, 255);
+        due("one less", club.ring(1), 7);
     }
 
     private static void ringsOfOneFooted() {
@@ -663,6 +737,7 @@ public final class PromiseTest {
         due("in a plan too", club.plan(), 100);
         due("left shoe", club.planOf(0, 20), 9);
         due("maker", club.planOf(0, 1), 1);
+        unsureFeet();
         OddShoes small = club(2);
         small.price(1, 0, 10);
         small.person(true, true, 1, 1, 1);
@@ -683,6 +758,32 @@ public final class PromiseTest {
         small.month(1);
         due("no size 61", small.ring(1), -1);
         due("nor in a plan", small.plan(), 100 + 10 * 61);
+    }
+
+    private static void unsureFeet() {
+        for (int side = 0; side < 2; side++) {
+            OddShoes club = club(1);
+            club.price(0, 0, 10);
+            club.person(true, true, 1, 0, 1);
+            club.trial(0, 9, 0, side, 0);
+            club.trial(0, 8, 0, 1 - side, -1);
+            club.trial(0, 11, 0, 1 - side, 1);
+            both(club, 9, 9);
+            both(club, 10, 9);
+            both(club, 9, 10);
+            for (int size = 1; size <= 12; size++) {
+                club.single(0, 0, 0, size);
+                club.single(0, 0, 1, size);
+            }
+            due("9 or 10", club.ring(1), -1);
+            due("9 or 10 in another ring", club.ring(1 + 2), -1);
+            due("9 or 10 in another ring", club.ring(1 + 4) + club.ring(1 + 8), -2);
+            due("nor in a plan", club.plan(), 300);
+            due("nor by hand", club.hand(0), -1);
+            due("it is 9", club.trial(0, 10, 0, 1 - side, 1) >= 0, true);
+            due("sure", club.ring(1), 10);
+            due("by hand", club.hand(0), 0);
+        }
     }
 
     private static void ringOf() {
@@ -760,6 +861,41 @@ public final class PromiseTest {
         cheap.terms(1, 0);
         due("as all is now", cheap.plan(), 2);
         due("twelve in rings", twelve(), 1200);
+        due("twelve alone", twelveAlone(), 1200);
+        due("a loop of five", loopOf(5), 500);
+        due("a loop of six is too long", loopOf(6), 0);
+        due("a loop of twelve", loopOf(12), 0);
+    }
+
+    private static int twelveAlone() {
+        OddShoes club = club(1);
+        club.price(0, 0, 1000);
+        for (int i = 0; i < 12; i++) {
+            both(club, 3 + i, 3 + i);
+        }
+        int worth = club.plan();
+        due("twelve rings", club.count(5), 12);
+        due("the last", club.planOf(11, 0), 1 << 11);
+        due("its size", club.planOf(11, 20), 14);
+        due("ring 12", club.planOf(12, 0), -1);
+        due("cost", club.count(6), 12000);
+        due("all are shod", club.send(), 12);
+        due("nobody waits", club.count(8), 0);
+        due("and the last is shod", club.personOf(11, 5), 3);
+        return worth;
+    }
+
+    /** Each one's right foot is as the left one of the next, and no others are. */
+    private static int loopOf(int many) {
+        OddShoes club = club(1);
+        club.price(0, 0, 1);
+        for (int i = 0; i < many; i++) {
+            both(club, 1 + i, 1 + (i + 1) % many);
+        }
+        int worth = club.plan();
+        due("rings", club.count(7) * 100, worth);
+        due("ahead", club.ahead(1) * 100, worth);
+        return worth;
     }
 
     private static int worthBeforeCost() {
@@ -1053,6 +1189,7 @@ public final class PromiseTest {
         due("two months later", club.ahead(2), 0);
         due("then", club.ahead(3), 3);
         due("shod as before", club.personOf(0, 5), 2);
+        due("how often as before", club.personOf(0, 9), 1);
         OddShoes turns = club(1);
         turns.price(0, 0, 1);
         both(turns, 1, 2);
@@ -1159,6 +1296,10 @@ public final class PromiseTest {
         club.trial(0, 9, 0, 1, 0);
         due("the least maker", club.hand(0), 1);
         due("its left side is not asked", club.personOf(0, 9), 3);
+        OddShoes none = club(4);
+        none.person(true, true, 255, 0, 1);
+        fit(none, 0, 9, 9);
+        due("none by any of four", none.hand(0), -1);
         OddShoes grown = club(1);
         grown.person(true, false, 1, 1, 1);
         fit(grown, 0, 30, 0);
