@@ -930,7 +930,7 @@ public final class OddShoes {
             return sum;
         }
 
-        /** The ranks, as bits, of the offers that suit all of a set; 0 if two of them have a BAR, or one is not able. */
+        /** The ranks, as bits, of the offers that suit all of a set; 0 if two have a BAR, or one is not able. */
         int sharedBy(int set) {
             int shared = -1;
             int rest = set;
