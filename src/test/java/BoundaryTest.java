@@ -19,7 +19,7 @@ public final class BoundaryTest {
     private static final int[][] NO_KINDS = {{-1, 0, 0, 1}, {2, 0, 0, 1}, {4, 0, 0, 1}, {0, -1, 0, 1}, {0, 8, 0, 1},
         {0, 0, -1, 1}, {0, 0, 2, 1}, {0, 0, 0, 0}, {0, 0, 0, -1}, {0, 0, 0, 61}};
     private static final long THROWS = Long.MIN_VALUE;
-    /** What can be asked, in lists that each are for a club of their own. */
+    /** Questions on all parts of a club, in lists that each are for a club of their own. */
     private static final List<List<Call>> QUESTIONS = questions();
     private static final Map<String, List<String>> quoted = new LinkedHashMap<>();
     private static String saying = "";
@@ -113,8 +113,8 @@ public final class BoundaryTest {
     }
 
     /**
-     * A call that is refused answers so, and nothing that can be asked is another thing afterwards than in a club
-     * without that call. New clubs are made for some questions at a time, for each is used for 512 calls at most.
+     * A call that is refused answers so, and afterwards many questions are answered as in a club without that call.
+     * New clubs are made for some questions at a time, for each is used for 512 calls at most.
      */
     private static void refused(Supplier<OddShoes> club, String call, long want, Call made) {
         due(call, made.on(club.get()), want);
@@ -2723,6 +2723,13 @@ public final class BoundaryTest {
             due("one", x.hand(2), 0);
             x.month(3);
             due("and none", x.hand(2), -1);
+            OddShoes four = club(4);
+            for (int i = 0; i < 12; i++) {
+                comes(four, 9, 9);
+            }
+            for (int i = 0; i < 12; i++) {
+                due("none by four makers", four.hand(i), -1);
+            }
         });
     }
 
